@@ -6,6 +6,7 @@ final class GridTest {
         drawsToSteps();
         drawsToTheLesserStep();
         needsSteps();
+        drawsSixteen();
         keepsLimits();
         cannotBeLaid();
         shiftInAnyMode();
@@ -98,6 +99,44 @@ final class GridTest {
         checks.due("one step: shift()", x.shift(), 0);
     }
 
+    private static void drawsSixteen() {
+        int[] marks = new int[15];
+        for (int i = 0; i < 15; i++) {
+            marks[i] = i + 1;
+        }
+        LoopSlicer x = onGrid(17, 170, 32, marks);
+        x.set(0, 10);
+        checks.due("16 marks: told(2)", x.told(2), 16);
+        checks.due("16 marks on 32 steps: told(3)", x.told(3), 1);
+        // The marks are due at 10, 20 and so on; two steps are 10 samples and five eighths.
+        for (int mark = 0; mark < 16; mark++) {
+            int step = nearestStep(mark * 10);
+            checks.due("16 marks: slice(" + mark + ", 3)", x.slice(mark, 3), step);
+        }
+        checks.due("16 marks: source(169, 0)", x.source(169, 0), 15);
+        x.set(7, 0);
+        dueSlices("16 marks, free", x, 2, 10, 10, 10, 10, 10, 10, 10, 10, 10, 10, 10, 10, 10, 10,
+                10, 20);
+        x.set(7, 1);
+        x.set(6, 16);
+        for (int mark = 0; mark < 16; mark++) {
+            checks.due("as many steps: slice(" + mark + ", 3)", x.slice(mark, 3), mark);
+        }
+        checks.due("as many steps: slice(15, 2)", x.slice(15, 2), 170 - 15 * 170 / 16);
+        checks.due("as many steps: leastGrid()", x.leastGrid(), 16);
+        x.set(6, 15);
+        checks.due("too few steps: told(3)", x.told(3), 0);
+    }
+
+    private static int nearestStep(int sample) {
+        int nearest = 0;
+        for (int step = 1; step < 32; step++) {
+            int distance = Math.abs(step * 170 / 32 - sample);
+            nearest = distance < Math.abs(nearest * 170 / 32 - sample) ? step : nearest;
+        }
+        return nearest;
+    }
+
     private static void keepsLimits() {
         // Slices of 10 and 30 samples on steps of 10.
         LoopSlicer x = onGrid(4, 40, 4, 1);
@@ -159,9 +198,9 @@ final class GridTest {
         checks.due("free: shift()", x.shift(), 20);
         x.set(6, 2);
         checks.due("free on two steps: shift()", x.shift(), -9);
-        // The sum is divided, and rounded down: 1 * 3 - 1 * 2 over 3.
+        // The sum is divided, and rounded down.
         x = onGrid(3, 2, 2, 1);
-        checks.due("a third: shift()", x.shift(), 0);
+        checks.due("1 * 3 - 1 * 2 over 3: shift()", x.shift(), 0);
         x = onGrid(3, 10, 2, 1);
         checks.due("5 * 3 - 1 * 10 over 3: shift()", x.shift(), 1);
     }
@@ -231,6 +270,17 @@ final class GridTest {
         checks.due("200000: nearTarget(200)", x.nearTarget(200), -9);
         x.set(5, 199800);
         checks.due("199800: nearTarget(200)", x.nearTarget(200), 199680);
+        // The first of five steps must have 40000 samples, as it first has with 200000.
+        x = onGrid(64, 199900, 5, 40, 46, 52, 58);
+        x.set(0, 1000);
+        x.set(3, 100);
+        checks.due("199900: nearTarget(99)", x.nearTarget(99), -9);
+        checks.due("199900: nearTarget(100)", x.nearTarget(100), 200000);
+        // One sample that must not be stretched can be laid with the least target of all.
+        x = onGrid(1, 12, 1);
+        x.set(4, 100);
+        checks.due("12: nearTarget(10)", x.nearTarget(10), -9);
+        checks.due("12: nearTarget(11)", x.nearTarget(11), 1);
         // The third of five steps must have 44000 * 91 / 100 = 40040 samples at least, as many
         // as it would have with a target of 200200, which is none.
         x = onGrid(64, 200000, 5, 5, 10, 54, 59);

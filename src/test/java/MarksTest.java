@@ -125,6 +125,9 @@ final class MarksTest {
         checks.due("full: order(0)", x.order(0), 15);
         x.undo();
         checks.due("a refused mark is not recorded", x.setting(3), 60);
+        checks.due("full: unmark(3)", x.unmark(3), 15);
+        checks.due("unmarked: the last one", x.slice(14, 0), 15);
+        checks.due("mark(19)", x.mark(19), 15);
     }
 
     private static void unmarks() {

@@ -89,40 +89,24 @@ final class ResultTest {
     }
 
     private static void countsBeyondLimits() {
-        // Of a frame of 3 samples: at least 1 (3 * 50 / 100), at most 6.
+        // The slices have 3 and 6 samples, and so 1 to 6 and 3 to 12 within the limits.
         LoopSlicer x = new LoopSlicer();
         x.begin(3);
         x.set(0, 3);
         x.mark(1);
-        int[][] due = {{2, 1}, {3, 0}, {18, 0}, {19, 1}, {20, 2}, {200, 2}, {1, 2}};
+        int[][] due = {{1, 2}, {2, 1}, {3, 1}, {4, 0}, {5, 0}, {18, 0}, {19, 1}, {20, 2}};
         for (int[] d : due) {
-            // The slices have 3 and 6 samples; their limits are 1 to 6 and 3 to 12.
             x.set(5, d[0]);
-            checks.due("target " + d[0] + ": told(4)", x.told(4), beyond(x));
+            checks.due("target " + d[0] + ": told(4)", x.told(4), d[1]);
             checks.due("target " + d[0] + ": told(3)", x.told(3), 1);
         }
-        x.set(5, 9);
-        checks.due("target 9: told(4)", x.told(4), 0);
         x.set(3, 100);
-        checks.due("least warp 100: told(4)", x.told(4), 0);
-        x.set(5, 8);
-        checks.due("target 8 at 100: told(4)", x.told(4), 1);
         x.set(4, 100);
-        x.set(5, 10);
-        checks.due("target 10 at 100: told(4)", x.told(4), 1);
-        x.set(5, 30);
-        checks.due("target 30 at 100: told(4)", x.told(4), 2);
-    }
-
-    private static int beyond(LoopSlicer x) {
-        int count = 0;
-        for (int slice = 0; slice < x.told(2); slice++) {
-            int least = x.slice(slice, 1) / 2;
-            int most = x.slice(slice, 1) * 2;
-            int budget = x.slice(slice, 2);
-            count += budget < least || budget > most ? 1 : 0;
+        int[][] exact = {{8, 1}, {9, 0}, {10, 1}, {30, 2}};
+        for (int[] e : exact) {
+            x.set(5, e[0]);
+            checks.due("target " + e[0] + " at 100: told(4)", x.told(4), e[1]);
         }
-        return count;
     }
 
     private static void fades() {
@@ -138,19 +122,14 @@ final class ResultTest {
         x.set(8, 0);
         checks.due("none: told(5)", x.told(5), 0);
         x.set(8, 500);
-        x.mark(12);
-        // Now 100, 20, 20 and 20; in the order 0, 2, 1, 3.
-        x.unmark(1);
-        x.mark(10);
-        x.swap(1, 2);
-        dueSlices("fourths of 5", x, 6, 5, 5, 5, 5);
+        // Budgets of 102, 41 and 20 in the order 0, 2, 1.
         x.set(5, 163);
+        x.swap(1, 2);
+        dueSlices("by the order", x, 6, 5, 10, 5);
+        checks.due("by the order: told(5)", x.told(5), 20);
+        x.mark(12);
+        dueSlices("more budgets", x, 2, 102, 21, 20, 20);
         dueSlices("fourths round down", x, 6, 5, 5, 5, 5);
-        x.unmark(3);
-        x.swap(0, 1);
-        // 102, 20 and 41 in the order 1, 0, 2.
-        dueSlices("budgets", x, 2, 102, 20, 41);
-        dueSlices("by the order", x, 6, 10, 5, 5);
     }
 
     private static void fadesOfOne() {
@@ -198,13 +177,13 @@ final class ResultTest {
             int[] begins = {0, 6, 15};
             int[] lengths = {6, 9, 15};
             int[] budgets = {4, 6, 10};
-            int[] due = {1, 1, 1};
             for (int j = 0; j < budgets[slice]; j++, sample++) {
                 String call = "source(" + sample + ", ";
                 int from = begins[slice] + j * lengths[slice] / budgets[slice];
                 checks.due(call + "0)", x.source(sample, 0), slice);
                 checks.due(call + "1)", x.source(sample, 1), from);
-                int fading = j >= budgets[slice] - due[slice] ? 1 : 0;
+                // All fades are of one sample: a fourth of 4, or of 6, rounded down.
+                int fading = j == budgets[slice] - 1 ? 1 : 0;
                 checks.due(call + "2)", x.source(sample, 2), fading);
             }
         }
