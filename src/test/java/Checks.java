@@ -1,3 +1,5 @@
+import java.util.function.IntUnaryOperator;
+
 /** Counts the answers that are as due, and prints those that are not. */
 final class Checks {
     private int right;
@@ -11,6 +13,22 @@ final class Checks {
         }
         wrong++;
         System.out.println(call + " answered " + got + ", due is " + want);
+    }
+
+    void dueText(String what, String got, String want) {
+        if (got.equals(want)) {
+            right++;
+            return;
+        }
+        wrong++;
+        System.out.println(what + " are " + got + ", due are " + want);
+    }
+
+    /** Asks for 0, 1, 2 and so on, and compares each answer. */
+    void dueRow(String call, IntUnaryOperator ask, int... due) {
+        for (int i = 0; i < due.length; i++) {
+            due(call + " of " + i, ask.applyAsInt(i), due[i]);
+        }
     }
 
     /** Numbers for made-up runs, the same ones each time for a seed. */

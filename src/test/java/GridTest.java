@@ -18,22 +18,6 @@ final class GridTest {
         checks.end();
     }
 
-    /** A loop of one sample a frame, on a grid with wide limits. */
-    private static LoopSlicer onGrid(int frames, int target, int grid, int... marks) {
-        LoopSlicer x = new LoopSlicer();
-        x.begin(frames);
-        x.set(0, 1);
-        x.set(3, 10);
-        x.set(4, 1000);
-        x.set(5, target);
-        x.set(6, grid);
-        x.set(7, 1);
-        for (int frame : marks) {
-            x.mark(frame);
-        }
-        return x;
-    }
-
     private static void dueSlices(String when, LoopSlicer x, int what, int... due) {
         for (int slice = 0; slice < due.length; slice++) {
             String call = when + ": slice(" + slice + ", " + what + ")";
@@ -44,7 +28,7 @@ final class GridTest {
     private static void drawsToSteps() {
         // The steps 0 to 4 lie at the samples 0, 25, 50, 75 and 100; the marks are due at
         // 0, 30 and 90, and no mark may have the step of the end.
-        LoopSlicer x = onGrid(10, 100, 4, 3, 9);
+        LoopSlicer x = Made.onGrid(10, 100, 4, 3, 9);
         x.set(0, 10);
         checks.due("told(3)", x.told(3), 1);
         checks.due("told(4)", x.told(4), 0);
@@ -62,7 +46,7 @@ final class GridTest {
         checks.due("source(99, 2)", x.source(99, 2), 1);
         checks.due("source(93, 2)", x.source(93, 2), 0);
         // Steps round down: 10 * 1 / 3 and 10 * 2 / 3.
-        x = onGrid(10, 10, 3, 3, 6);
+        x = Made.onGrid(10, 10, 3, 3, 6);
         dueSlices("thirds", x, 2, 3, 3, 4);
         dueSlices("thirds", x, 3, 0, 1, 2);
         checks.due("thirds: shift()", x.shift(), 0);
@@ -70,23 +54,23 @@ final class GridTest {
 
     private static void drawsToTheLesserStep() {
         // The mark is due at 50, between the steps at 40 and 60.
-        LoopSlicer x = onGrid(10, 100, 5, 5);
+        LoopSlicer x = Made.onGrid(10, 100, 5, 5);
         x.set(0, 10);
         dueSlices("between", x, 3, 0, 2);
         checks.due("between: shift()", x.shift(), 10);
         // The marks are due at 50 and 60; 20 or 40 for the first makes no less than 40 and 60.
-        x = onGrid(10, 100, 5, 5, 6);
+        x = Made.onGrid(10, 100, 5, 5, 6);
         x.set(0, 10);
         dueSlices("two", x, 3, 0, 2, 3);
         checks.due("two: shift()", x.shift(), 10);
         // The marks 1, 2 and 3 of 6 are due at 2, 4 and 6 of 12; a grid of 4 leaves one way.
-        x = onGrid(6, 12, 4, 1, 2, 3);
+        x = Made.onGrid(6, 12, 4, 1, 2, 3);
         dueSlices("one way", x, 3, 0, 1, 2, 3);
         checks.due("one way: shift()", x.shift(), 1 + 2 + 3);
     }
 
     private static void needsSteps() {
-        LoopSlicer x = onGrid(8, 16, 2, 2, 4);
+        LoopSlicer x = Made.onGrid(8, 16, 2, 2, 4);
         checks.due("three slices on two steps: told(3)", x.told(3), 0);
         checks.due("leastGrid()", x.leastGrid(), 3);
         x.set(6, 3);
@@ -104,7 +88,7 @@ final class GridTest {
         for (int i = 0; i < 15; i++) {
             marks[i] = i + 1;
         }
-        LoopSlicer x = onGrid(17, 170, 32, marks);
+        LoopSlicer x = Made.onGrid(17, 170, 32, marks);
         x.set(0, 10);
         checks.due("16 marks: told(2)", x.told(2), 16);
         checks.due("16 marks on 32 steps: told(3)", x.told(3), 1);
@@ -139,7 +123,7 @@ final class GridTest {
 
     private static void keepsLimits() {
         // Slices of 10 and 30 samples on steps of 10.
-        LoopSlicer x = onGrid(4, 40, 4, 1);
+        LoopSlicer x = Made.onGrid(4, 40, 4, 1);
         x.set(0, 10);
         dueSlices("wide", x, 3, 0, 1);
         x.set(3, 100);
@@ -166,7 +150,7 @@ final class GridTest {
     }
 
     private static void cannotBeLaid() {
-        LoopSlicer x = onGrid(8, 16, 2, 2, 4);
+        LoopSlicer x = Made.onGrid(8, 16, 2, 2, 4);
         checks.due("told(3)", x.told(3), 0);
         checks.due("told(4)", x.told(4), -9);
         checks.due("told(5)", x.told(5), -9);
@@ -192,21 +176,21 @@ final class GridTest {
     }
 
     private static void shiftInAnyMode() {
-        LoopSlicer x = onGrid(10, 100, 4, 3, 9);
+        LoopSlicer x = Made.onGrid(10, 100, 4, 3, 9);
         x.set(0, 10);
         x.set(7, 0);
         checks.due("free: shift()", x.shift(), 20);
         x.set(6, 2);
         checks.due("free on two steps: shift()", x.shift(), -9);
         // The sum is divided, and rounded down.
-        x = onGrid(3, 2, 2, 1);
+        x = Made.onGrid(3, 2, 2, 1);
         checks.due("1 * 3 - 1 * 2 over 3: shift()", x.shift(), 0);
-        x = onGrid(3, 10, 2, 1);
+        x = Made.onGrid(3, 10, 2, 1);
         checks.due("5 * 3 - 1 * 10 over 3: shift()", x.shift(), 1);
     }
 
     private static void leastGrids() {
-        LoopSlicer x = onGrid(16, 1600, 16, 4, 8);
+        LoopSlicer x = Made.onGrid(16, 1600, 16, 4, 8);
         x.set(0, 100);
         x.set(3, 100);
         x.set(4, 100);
@@ -231,7 +215,7 @@ final class GridTest {
 
     private static void nearTargets() {
         // Exactly a loop of 100 samples can be laid.
-        LoopSlicer x = onGrid(10, 100, 10, 5);
+        LoopSlicer x = Made.onGrid(10, 100, 10, 5);
         x.set(0, 10);
         x.set(3, 100);
         x.set(4, 100);
@@ -254,7 +238,7 @@ final class GridTest {
     }
 
     private static void nearTargetAtItsEnds() {
-        LoopSlicer x = onGrid(3, 34, 3, 1, 2);
+        LoopSlicer x = Made.onGrid(3, 34, 3, 1, 2);
         x.set(0, 10);
         x.set(3, 100);
         x.set(4, 110);
@@ -262,7 +246,7 @@ final class GridTest {
         checks.due("34: nearTarget(1)", x.nearTarget(1), 33);
         x.set(5, 29);
         checks.due("29: nearTarget(1)", x.nearTarget(1), 30);
-        x = onGrid(64, 200000, 1);
+        x = Made.onGrid(64, 200000, 1);
         x.set(0, 1000);
         checks.due("200000: nearTarget(0)", x.nearTarget(0), 200000);
         // 64000 * 312 / 100 = 199680 is the most then.
@@ -271,26 +255,26 @@ final class GridTest {
         x.set(5, 199800);
         checks.due("199800: nearTarget(200)", x.nearTarget(200), 199680);
         // The first of five steps must have 40000 samples, as it first has with 200000.
-        x = onGrid(64, 199900, 5, 40, 46, 52, 58);
+        x = Made.onGrid(64, 199900, 5, 40, 46, 52, 58);
         x.set(0, 1000);
         x.set(3, 100);
         checks.due("199900: nearTarget(99)", x.nearTarget(99), -9);
         checks.due("199900: nearTarget(100)", x.nearTarget(100), 200000);
         // One sample that must not be stretched can be laid with the least target of all.
-        x = onGrid(1, 12, 1);
+        x = Made.onGrid(1, 12, 1);
         x.set(4, 100);
         checks.due("12: nearTarget(10)", x.nearTarget(10), -9);
         checks.due("12: nearTarget(11)", x.nearTarget(11), 1);
         // The third of five steps must have 44000 * 91 / 100 = 40040 samples at least, as many
         // as it would have with a target of 200200, which is none.
-        x = onGrid(64, 200000, 5, 5, 10, 54, 59);
+        x = Made.onGrid(64, 200000, 5, 5, 10, 54, 59);
         x.set(0, 1000);
         x.set(3, 91);
         checks.due("no target beyond 200000", x.nearTarget(200), -9);
         x.set(3, 90);
         checks.due("200000 can be laid", x.nearTarget(200), 200000);
         // The third of five steps has 10 samples with the targets 47 and 49, but 9 with 48.
-        x = onGrid(47, 48, 5, 9, 18, 28, 37);
+        x = Made.onGrid(47, 48, 5, 9, 18, 28, 37);
         x.set(3, 100);
         checks.due("48: told(3)", x.told(3), 0);
         checks.due("48: nearTarget(0)", x.nearTarget(0), -9);
@@ -316,7 +300,7 @@ final class GridTest {
             int samples = checks.pick(1, 5);
             int grid = checks.pick(1, 9);
             int target = Math.max(1, frames * samples * checks.pick(40, 220) / 100);
-            LoopSlicer x = onGrid(frames, target, grid);
+            LoopSlicer x = Made.onGrid(frames, target, grid);
             x.set(0, samples);
             x.set(3, checks.pick(10, 100));
             x.set(4, checks.pick(100, 300));
@@ -345,21 +329,38 @@ final class GridTest {
 
     /** Tries every way to draw the marks, lesser steps first. */
     private static final class Ways {
-        final LoopSlicer x;
+        final int frames;
+        final int target;
+        final int grid;
+        final int least;
+        final int greatest;
         final int marks;
+        final int[] markFrames;
+        final int[] lengths;
         final int[] steps;
         int[] bestSteps;
         int best = -1;
 
+        /** Asks for all it needs at once, since an object answers 512 calls and no more. */
         Ways(LoopSlicer x) {
-            this.x = x;
+            frames = x.told(0);
+            target = x.setting(5);
+            grid = x.setting(6);
+            least = x.setting(3);
+            greatest = x.setting(4);
             marks = x.told(2);
+            markFrames = new int[marks];
+            lengths = new int[marks];
+            for (int mark = 0; mark < marks; mark++) {
+                markFrames[mark] = x.slice(mark, 0);
+                lengths[mark] = x.slice(mark, 1);
+            }
             steps = new int[marks + 1];
-            steps[marks] = x.setting(6);
+            steps[marks] = grid;
         }
 
         int at(int step) {
-            return step * x.setting(5) / x.setting(6);
+            return step * target / grid;
         }
 
         void draw(int mark) {
@@ -367,7 +368,7 @@ final class GridTest {
                 judge();
                 return;
             }
-            for (int step = steps[mark - 1] + 1; step < steps[marks]; step++) {
+            for (int step = steps[mark - 1] + 1; step < grid; step++) {
                 steps[mark] = step;
                 draw(mark + 1);
             }
@@ -377,11 +378,11 @@ final class GridTest {
             int sum = 0;
             for (int mark = 0; mark < marks; mark++) {
                 int budget = at(steps[mark + 1]) - at(steps[mark]);
-                int length = x.slice(mark, 1);
-                if (budget < length * x.setting(3) / 100 || budget > length * x.setting(4) / 100) {
+                int length = lengths[mark];
+                if (budget < length * least / 100 || budget > length * greatest / 100) {
                     return;
                 }
-                sum += Math.abs(at(steps[mark]) * x.told(0) - x.slice(mark, 0) * x.setting(5));
+                sum += Math.abs(at(steps[mark]) * frames - markFrames[mark] * target);
             }
             if (best < 0 || sum < best) {
                 best = sum;

@@ -17,15 +17,6 @@ final class MarksTest {
         checks.end();
     }
 
-    private static LoopSlicer withEnergies(int... energies) {
-        LoopSlicer x = new LoopSlicer();
-        x.begin(energies.length);
-        for (int frame = 0; frame < energies.length; frame++) {
-            x.sound(frame, frame, energies[frame]);
-        }
-        return x;
-    }
-
     private static void dueMarks(String when, LoopSlicer x, int... frames) {
         checks.due(when + ": marks", x.told(2), frames.length);
         for (int mark = 0; mark < frames.length; mark++) {
@@ -36,7 +27,7 @@ final class MarksTest {
 
     private static void findsRises() {
         // Rises of 99, 100 and 101, and a fall; the threshold is 100.
-        LoopSlicer x = withEnergies(500, 0, 99, 0, 100, 0, 101, 0);
+        LoopSlicer x = Made.withEnergies(500, 0, 99, 0, 100, 0, 101, 0);
         checks.due("find()", x.find(), 3);
         dueMarks("rises", x, 0, 4, 6);
         x.set(1, 101);
@@ -49,7 +40,7 @@ final class MarksTest {
 
     private static void findKeepsDistance() {
         // The distance is counted from the latest mark, not from the latest rise.
-        LoopSlicer x = withEnergies(0, 100, 200, 300, 400, 500, 600, 700);
+        LoopSlicer x = Made.withEnergies(0, 100, 200, 300, 400, 500, 600, 700);
         x.set(2, 1);
         checks.due("find() at distance 1", x.find(), 8);
         x.set(2, 3);
@@ -72,7 +63,7 @@ final class MarksTest {
     }
 
     private static void findForgets() {
-        LoopSlicer x = withEnergies(0, 0, 0, 0, 0, 0, 500, 0);
+        LoopSlicer x = Made.withEnergies(0, 0, 0, 0, 0, 0, 500, 0);
         x.mark(3);
         x.mark(5);
         x.reverse();
@@ -185,7 +176,7 @@ final class MarksTest {
     }
 
     private static void countsWithThreshold() {
-        LoopSlicer x = withEnergies(0, 999, 0, 500, 0, 200, 300, 0);
+        LoopSlicer x = Made.withEnergies(0, 999, 0, 500, 0, 200, 300, 0);
         x.set(2, 1);
         checks.due("marksWith(1)", x.marksWith(1), 5);
         checks.due("marksWith(100)", x.marksWith(100), 5);
@@ -202,7 +193,7 @@ final class MarksTest {
     }
 
     private static void findsThreshold() {
-        LoopSlicer x = withEnergies(0, 998, 0, 500, 0, 200, 300, 0);
+        LoopSlicer x = Made.withEnergies(0, 998, 0, 500, 0, 200, 300, 0);
         x.set(2, 1);
         int[] due = {999, 998, 500, 200, 100, -9, -9};
         for (int marks = 1; marks <= due.length; marks++) {
@@ -219,7 +210,7 @@ final class MarksTest {
         checks.due("a rise of 1: thresholdFor(4)", x.thresholdFor(4), 1);
         checks.due("thresholdFor leaves the marks", x.told(2), 1);
         checks.due("thresholdFor leaves the setting", x.setting(1), 100);
-        x = withEnergies(0, 0, 999);
+        x = Made.withEnergies(0, 0, 999);
         checks.due("a rise of 999: thresholdFor(2)", x.thresholdFor(2), 999);
         x = new LoopSlicer();
         x.begin(64);

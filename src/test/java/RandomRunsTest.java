@@ -1,4 +1,4 @@
-/** All promises: made-up runs of 512 calls, each answer compared with the reference's. */
+/** Promises 1 to 25: made-up runs of 512 calls, each answer compared with the reference's. */
 final class RandomRunsTest {
     private static final int RUNS = 200;
     private static final int CALLS = 512;
